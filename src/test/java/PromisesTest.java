@@ -1,65 +1,10 @@
 /** Each promise by answers that were worked out by hand from the document. */
-public final class PromisesTest {
+public final class PromisesTest extends Due {
     private static final String FARM = "dairy 4 1 20;road 0 1 2;road 1 2 1;road 0 2 4;hand 0 3 4;hand 1 0 2;hand 0 6 0;"
             + "jug 0 2;jug 1 10;heat 1 2 2;want 2 8 14 9;want 1 0 12 5";
-    private static final int MIN = Integer.MIN_VALUE;
-    private static final int MAX = Integer.MAX_VALUE;
-
-    private static int wrong = 0;
-    private static int promise = 0;
-
-    private static void due(String call, int got, int want) {
-        if (got != want) {
-            wrong++;
-            System.out.println("promise " + promise + ": " + call + " answered " + got + ", due is " + want);
-        }
-    }
-
-    private static void say(TurningMilk m, String text) {
-        for (int i = 0; i < text.length(); i += 20) {
-            int[] n = new int[5];
-            for (int j = 0; j < 20; j++) {
-                n[j / 4] |= (i + j < text.length() ? text.charAt(i + j) & 255 : 0) << 24 - 8 * (j % 4);
-            }
-            m.feed(n[0], n[1], n[2], n[3], n[4]);
-        }
-        m.end(text.length());
-    }
-
-    private static int dairy(TurningMilk m, String text) {
-        say(m, text);
-        return m.dairy();
-    }
-
-    private static int rule(TurningMilk m, String text) {
-        say(m, text);
-        return m.rule();
-    }
 
     private static TurningMilk farm() {
         return of(FARM);
-    }
-
-    private static TurningMilk of(String text) {
-        TurningMilk m = new TurningMilk();
-        int answer = dairy(m, text);
-        if (answer < 0) {
-            wrong++;
-            System.out.println("promise " + promise + ": " + text + " is no dairy: " + answer);
-        }
-        return m;
-    }
-
-    private static int fault(int place, int kind) {
-        return -2 - (1 + 8 * place + kind);
-    }
-
-    private static void noDairy(String text, int place, int kind) {
-        due("dairy of '" + text + "'", dairy(new TurningMilk(), text), fault(place, kind));
-    }
-
-    private static void noRule(String text, int place, int kind) {
-        due("rule of '" + text + "'", rule(new TurningMilk(), text), fault(place, kind));
     }
 
     private static void promise1() {
@@ -187,10 +132,6 @@ public final class PromisesTest {
         noDairy("dairy 2 0 10;want 0 0 0 0", 24, 1);
         noDairy("dairy 2 0 10;want 0 0 0 51", 24, 1);
         manyClauses();
-    }
-
-    private static String times(String clause, int n) {
-        return clause.repeat(n);
     }
 
     private static void manyClauses() {
@@ -1073,7 +1014,7 @@ public final class PromisesTest {
     }
 
     private static void run(int number) {
-        promise = number;
+        sentence("promise " + number);
         switch (number) {
             case 1: promise1(); break;
             case 2: promise2(); break;
@@ -1114,9 +1055,6 @@ public final class PromisesTest {
         for (int number = 1; number <= 32; number++) {
             run(number);
         }
-        System.out.println(wrong == 0 ? "all answers are as due" : wrong + " answers are not as due");
-        if (wrong != 0) {
-            System.exit(1);
-        }
+        finish();
     }
 }
